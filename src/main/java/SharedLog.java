@@ -415,7 +415,6 @@ public final class SharedLog {
 
         private int end(int newOutcome, int newNumber) {
             kind = IDLE;
-            route = NO_UNITS;
             outcome = newOutcome;
             number = newNumber;
             return ENDED;

@@ -6,8 +6,9 @@ import java.util.Random;
  * never changes.
  */
 public final class SharedLogScheduleTest {
-    private static final int RUNS = 3000;
-    private static final int CALLS = 400;
+    private static final int RUNS = 20000;
+    // An object is promised for 512 calls; the look at all cells at the end takes 192 of them.
+    private static final int CALLS_BEFORE_LAST_LOOK = 310;
     private static final int UNKNOWN = -2;
 
     private static final Checks checks = new Checks();
@@ -18,7 +19,9 @@ public final class SharedLogScheduleTest {
     private final int[] acknowledged = new int[32];
     private final boolean[] filled = new boolean[32];
     private final int[][] cells = new int[6][32];
+    private final int[] kinds = new int[3];
     private final int[] argument = new int[3];
+    private int calls = 0;
     private int newestEpoch = 0;
     private int nextValue = 0;
 
@@ -45,18 +48,27 @@ public final class SharedLogScheduleTest {
 
     private int play() {
         int ended = 0;
-        for (int call = 0; call < CALLS; call++) {
+        while (calls < CALLS_BEFORE_LAST_LOOK) {
             int client = random.nextInt(3);
-            int kind = log.busy(client);
+            calls++;
             if (random.nextInt(12) == 0) {
                 disturb();
-            } else if (kind == 0) {
+            } else if (kinds[client] == 0) {
                 begin(client);
             } else if (log.step(client) == 1) {
                 ended++;
-                lookAtEnd(client, kind);
+                lookAtEnd(client, kinds[client]);
+                kinds[client] = 0;
             }
-            lookAtCells();
+            if (random.nextInt(4) == 0) {
+                calls++;
+                lookAtCell(random.nextInt(6), random.nextInt(8));
+            }
+        }
+        for (int u = 0; u < 6; u++) {
+            for (int p = 0; p < 32; p++) {
+                lookAtCell(u, p);
+            }
         }
         return ended;
     }
@@ -74,26 +86,32 @@ public final class SharedLogScheduleTest {
         if (choice < 6) {
             // Every append has a value of its own, so that a mixed up one is seen.
             argument[client] = nextValue++;
-            log.append(client, argument[client]);
+            kinds[client] = 1;
+            checks.due("append", log.append(client, argument[client]), 0);
         } else if (choice < 8) {
-            argument[client] = random.nextInt(Math.min(32, log.tail() + 2));
+            argument[client] = random.nextInt(12);
             filled[argument[client]] = true;
-            log.fill(client, argument[client]);
+            kinds[client] = 2;
+            checks.due("fill", log.fill(client, argument[client]), 0);
         } else if (choice < 12) {
-            argument[client] = random.nextInt(Math.min(32, log.tail() + 2));
-            log.read(client, argument[client]);
+            argument[client] = random.nextInt(12);
+            kinds[client] = 3;
+            checks.due("read", log.read(client, argument[client]), 0);
         } else if (choice < 13) {
-            log.replay(client, random.nextInt(33));
+            kinds[client] = 4;
+            checks.due("replay", log.replay(client, random.nextInt(33)), 0);
         } else if (choice < 14) {
-            log.reform(client, 1 << random.nextInt(random.nextBoolean() ? 6 : 3));
+            int without = 1 << random.nextInt(random.nextBoolean() ? 6 : 3);
+            kinds[client] = log.reform(client, without) == 0 ? 5 : 0;
         } else {
-            log.refresh(client);
+            checks.due("refresh", log.refresh(client), newestEpoch);
         }
     }
 
     private void lookAtEnd(int client, int kind) {
         int outcome = log.outcome(client);
         int number = log.number(client);
+        calls += 2;
         if (kind == 5 && outcome == 1) {
             checks.due("new epoch", number, newestEpoch + 1);
             newestEpoch = number;
@@ -106,8 +124,12 @@ public final class SharedLogScheduleTest {
         if ((kind == 2 || kind == 3) && outcome == 1) {
             lookAtShown(argument[client], number);
         }
-        if (kind == 3 && outcome == 3 && log.epochOf(client) == newestEpoch) {
-            checks.due("acknowledged but not found", acknowledged[argument[client]], UNKNOWN);
+        // An old client may still ask a unit that was left out; only a fresh one has to find it.
+        if (kind == 3 && outcome == 3) {
+            calls++;
+            boolean fresh = log.epochOf(client) == newestEpoch;
+            boolean lost = fresh && acknowledged[argument[client]] != UNKNOWN;
+            checks.due("acknowledged but not found", lost, false);
         }
     }
 
@@ -118,17 +140,12 @@ public final class SharedLogScheduleTest {
         shown[position] = content;
     }
 
-    private void lookAtCells() {
-        for (int u = 0; u < 6; u++) {
-            for (int p = 0; p < 32; p++) {
-                int now = log.cell(u, p);
-                if (cells[u][p] != UNKNOWN) {
-                    checks.due("written cell " + u + " " + p, now, cells[u][p]);
-                }
-                checks.due("junk without a fill at " + p, now == -1 && !filled[p], false);
-                checks.due("other stripe written", now != UNKNOWN && u % 2 != p % 2, false);
-                cells[u][p] = now;
-            }
-        }
+    private void lookAtCell(int unit, int position) {
+        int now = log.cell(unit, position);
+        int before = cells[unit][position];
+        checks.due("written cell has changed", before != UNKNOWN && before != now, false);
+        checks.due("junk without a fill", now == -1 && !filled[position], false);
+        checks.due("other stripe written", now != UNKNOWN && unit % 2 != position % 2, false);
+        cells[unit][position] = now;
     }
 }
